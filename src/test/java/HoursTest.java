@@ -1,0 +1,236 @@
+/** Promises 9 to 13: hours. */
+public final class HoursTest {
+    private static final Check CHECK = new Check();
+    private static final String STILL = "sky 200 200 0;sun 0;house 0 0 0 0";
+
+    public static void main(String[] args) {
+        warmRefusals();
+        warmBySun();
+        warmByFolkAndWall();
+        warmByDoors();
+        warmByWindow();
+        windowHabits();
+        night();
+        above();
+        costs();
+        clock();
+        CHECK.end();
+    }
+
+    private static HotWeek house(String... texts) {
+        HotWeek x = new HotWeek();
+        for (String text : texts) {
+            CHECK.tell(x, text);
+        }
+        return x;
+    }
+
+    private static void warmRefusals() {
+        HotWeek x = house("room 1 250 240 0 0");
+        CHECK.due("warm(0, 0, 0)", x.warm(0, 0, 0), HotWeek.UNKNOWN);
+        CHECK.due("warm(0, 0, 9)", x.warm(0, 0, 9), HotWeek.UNKNOWN);
+        CHECK.due("warm(5, 0, 0)", x.warm(5, 0, 0), HotWeek.UNKNOWN);
+        CHECK.due("warm(-1, 0, 0)", x.warm(-1, 0, 0), HotWeek.UNKNOWN);
+        CHECK.due("warm(1, 96, 0)", x.warm(1, 96, 0), HotWeek.UNKNOWN);
+        CHECK.due("warm(1, -1, 9)", x.warm(1, -1, 9), HotWeek.UNKNOWN);
+        CHECK.due("warm(1, max, 0)", x.warm(1, Integer.MAX_VALUE, 0), HotWeek.UNKNOWN);
+        CHECK.due("warm(1, 0, 3)", x.warm(1, 0, 3), HotWeek.OUTSIDE);
+        CHECK.due("warm(1, 0, -1)", x.warm(1, 0, -1), HotWeek.OUTSIDE);
+        // as told at first: AIR by -10 * 10 / 100, WALL by 10 * 20 / 100 and (233 - 240) * 3 / 100
+        CHECK.due("warm(1, 0, 0)", x.warm(1, 0, 0), 249);
+        CHECK.due("warm(1, 0, 1)", x.warm(1, 0, 1), 242);
+        CHECK.due("warm(1, 0, 2)", x.warm(1, 0, 2), 0);
+    }
+
+    /** The sun by side, from its first hour through its last; with the shutter down a quarter. */
+    private static void warmBySun() {
+        HotWeek x = house(STILL, "sun 99;room 0 0 0 0 0;room 1 0 0 1 0;room 2 0 0 2 0;room 3 0 0 3 0",
+                "shut 1 7 9;shut 2 15 10");
+        int[][] span = {{24, 24}, {6, 10}, {10, 15}, {15, 19}};
+        for (int r = 0; r < 4; r++) {
+            int air = 0;
+            for (int hour = 0; hour < 96; hour++) {
+                int h = hour % 24;
+                boolean shut = r == 1 && (h == 7 || h == 8) || r == 2 && (h >= 15 || h < 10);
+                if (h >= span[r][0] && h <= span[r][1]) {
+                    air += shut ? 24 : 99;
+                }
+                CHECK.due("sun in room " + r + " behind " + hour, x.warm(r, hour, 0), air);
+            }
+        }
+    }
+
+    private static void warmByFolkAndWall() {
+        HotWeek x = house(STILL, "room 0 250 250 0 9;home 22 1");
+        CHECK.due("folk at 0", x.warm(0, 0, 0), 268);
+        CHECK.due("no folk at 1", x.warm(0, 1, 0), 268);
+        CHECK.due("no folk till 21", x.warm(0, 21, 0), 268);
+        CHECK.due("folk at 22", x.warm(0, 22, 0), 286);
+        CHECK.due("folk three hours a day", x.warm(0, 95, 0), 250 + 12 * 18);
+        x = house("sky 0 0 0;sun 0;house 30 40 20 0;room 0 109 200 0 0;room 1 200 109 0 0;room 2 0 4 0 0");
+        // 91 * 40 / 100 is 36; -91 * 30 / 100 is -27, cut towards 0, and -200 * 20 / 100
+        CHECK.due("AIR from WALL", x.warm(0, 0, 0), 145);
+        CHECK.due("WALL to AIR and OUT", x.warm(0, 0, 1), 200 - 27 - 40);
+        CHECK.due("AIR to WALL", x.warm(1, 0, 0), 164);
+        CHECK.due("WALL from AIR, to OUT", x.warm(1, 0, 1), 109 + 27 - 21);
+        CHECK.due("AIR, less than one cut", x.warm(2, 0, 0), 1);
+        CHECK.due("WALL, less than one cut", x.warm(2, 0, 1), 3);
+    }
+
+    private static void warmByDoors() {
+        HotWeek x = house(STILL, "room 0 250 0 0 0;room 1 301 0 0 0;room 2 199 0 0 0;door 0 1 10;door 0 2 7;door 0 3 9");
+        // all at once: 51 * 10 / 100 and -51 * 7 / 100, each cut; room 3 is not told
+        CHECK.due("two doors", x.warm(0, 0, 0), 250 + 5 - 3);
+        CHECK.due("door from 0 to 1", x.warm(1, 0, 0), 301 - 5);
+        CHECK.due("door from 0 to 2", x.warm(2, 0, 0), 199 + 3);
+        CHECK.due("and the next hour", x.warm(0, 1, 0), 252 + 4 - 3);
+        CHECK.tell(x, "room 3 600 0 0 0");
+        CHECK.due("a third door", x.warm(0, 0, 0), 250 + 5 - 3 + 31);
+        CHECK.tell(x, "bare 3");
+        CHECK.due("the room behind it is bare", x.warm(0, 0, 0), 250 + 5 - 3);
+    }
+
+    private static void warmByWindow() {
+        HotWeek x = house(STILL, "house 0 0 0 25;room 0 297 0 0 0;open 0 2 4;room 1 103 0 0 0;open 1 1 2");
+        CHECK.due("shut at 1", x.warm(0, 1, 0), 297);
+        CHECK.due("shut at 1 (2)", x.warm(0, 1, 2), 0);
+        CHECK.due("open at 2", x.warm(0, 2, 0), 297 - 24);
+        CHECK.due("open at 2 (2)", x.warm(0, 2, 2), 1);
+        CHECK.due("open at 3", x.warm(0, 3, 0), 273 - 18);
+        CHECK.due("shut at 4", x.warm(0, 4, 0), 255);
+        CHECK.due("shut at 4 (2)", x.warm(0, 4, 2), 0);
+        CHECK.due("open at 26", x.warm(0, 26, 2), 1);
+        CHECK.due("warmer from without", x.warm(1, 1, 0), 103 + 24);
+        CHECK.tell(x, "home 3 2");
+        CHECK.due("nobody at home at 2", x.warm(0, 2, 2), 0);
+        CHECK.due("somebody at home at 3", x.warm(0, 3, 2), 1);
+    }
+
+    private static void windowHabits() {
+        HotWeek x = house("sky 200 200 0;sun 0;house 0 0 0 40;room 0 201 0 0 0;room 1 200 0 0 0;room 2 199 0 0 0",
+                "habit 0 1;habit 1 1;habit 2 1");
+        CHECK.due("by GLASS, warmer within", x.warm(0, 0, 2), 1);
+        CHECK.due("by GLASS, alike", x.warm(1, 0, 2), 0);
+        CHECK.due("by GLASS, warmer without", x.warm(2, 0, 2), 0);
+        CHECK.tell(x, "habit 1 2;habit 2 3;habit 0 0;open 2 0 23");
+        CHECK.due("ALWAYS", x.warm(1, 0, 2), 1);
+        CHECK.due("NEVER", x.warm(2, 0, 2), 0);
+        CHECK.due("CLOCK", x.warm(0, 0, 2), 0);
+        CHECK.tell(x, "home 1 0");
+        CHECK.due("ALWAYS, but nobody at home", x.warm(1, 24, 2), 0);
+        CHECK.due("ALWAYS", x.warm(1, 25, 2), 1);
+        // by GLASS, what is read is the AIR ahead of the hour: folk make 200 to 202 in hour 0
+        x = house("sky 200 200 0;sun 0;house 0 0 0 40;room 0 200 0 0 1;habit 0 1");
+        CHECK.due("GLASS in 0", x.warm(0, 0, 2), 0);
+        CHECK.due("GLASS in 1", x.warm(0, 1, 2), 1);
+    }
+
+    private static void night() {
+        // nine folk for one hour a day: 18 an hour h; behind hours 0 .. h - 1 it is not there yet
+        for (int h = 0; h < 24; h++) {
+            HotWeek x = house(STILL, "room 2 0 0 0 9;home " + h + " " + (h + 1) % 24);
+            int want = 0;
+            for (int hour = 0; hour < 96; hour++) {
+                if (hour % 24 <= 5 || hour % 24 >= 22) {
+                    want += 18 * ((hour + 24 - h) / 24);
+                }
+            }
+            CHECK.due("night(2), folk at " + h, x.night(2), want);
+        }
+        HotWeek x = house(STILL, "room 0 100 0 0 0;room 4 201 0 0 0");
+        CHECK.due("night(0)", x.night(0), 3200);
+        CHECK.due("night(4)", x.night(4), 32 * 201);
+        CHECK.due("night(NONE)", x.night(HotWeek.NONE), 32 * 301);
+        CHECK.due("night(1)", x.night(1), HotWeek.UNKNOWN);
+        CHECK.due("night(5)", x.night(5), HotWeek.UNKNOWN);
+        CHECK.due("night(-2)", x.night(-2), HotWeek.UNKNOWN);
+        CHECK.tell(x, "bare 0");
+        CHECK.due("night(NONE), one bare", x.night(HotWeek.NONE), 32 * 201);
+    }
+
+    private static void above() {
+        HotWeek x = house("sky 0 0 0;sun 0;house 0 0 0 40;room 1 100 0 0 9;home 8 10;habit 1 3");
+        CHECK.due("above 99", x.above(1, 99), 96);
+        CHECK.due("above 100: from hour 8", x.above(1, 100), 88);
+        CHECK.due("above 118: from hour 9", x.above(1, 118), 87);
+        CHECK.due("above 243", x.above(1, 243), 15);
+        CHECK.due("above 244", x.above(1, 244), 0);
+        CHECK.due("above -999", x.above(1, -999), 96);
+        CHECK.due("above 9999", x.above(1, 9999), 0);
+        CHECK.due("above -1000", x.above(1, -1000), HotWeek.OUTSIDE);
+        CHECK.due("above 10000", x.above(1, 10000), HotWeek.OUTSIDE);
+        CHECK.due("above(0, 10000)", x.above(0, 10000), HotWeek.UNKNOWN);
+        CHECK.due("above(-1, 0)", x.above(-1, 0), HotWeek.UNKNOWN);
+        // the walls hold 0, the air falls and rises each day: the longest row, not all together
+        x = house("sky 0 0 0;sun 99;house 0 40 0 0;room 0 200 0 1 0");
+        int longest = 0;
+        int all = 0;
+        for (int hour = 0, row = 0; hour < 96; hour++) {
+            boolean is = x.warm(0, hour, 0) > 60;
+            row = is ? row + 1 : 0;
+            all += is ? 1 : 0;
+            longest = Math.max(longest, row);
+        }
+        CHECK.due("the longest row", x.above(0, 60), longest);
+        CHECK.due("which is not all", longest < all && longest > 1 ? 1 : 0, 1);
+    }
+
+    private static void costs() {
+        HotWeek x = house("sky 200 200 0;sun 0;house 0 0 0 25;room 0 204 0 0 0;room 1 100 0 0 0;habit 1 1;habit 0 3");
+        // by GLASS it would be 203, 203, .. (4 * 25 / 100, then 3 * 25 / 100 cut)
+        CHECK.due("costs(0)", x.costs(0), 10000000 + 32);
+        CHECK.due("costs(1), by GLASS", x.costs(1), 10000000);
+        CHECK.due("night stays", x.night(0), 32 * 204);
+        CHECK.due("habit stays", x.room(0, 4), 3);
+        CHECK.due("costs(2)", x.costs(2), HotWeek.UNKNOWN);
+        CHECK.due("costs(NONE)", x.costs(HotWeek.NONE), HotWeek.UNKNOWN);
+        CHECK.due("costs(5)", x.costs(5), HotWeek.UNKNOWN);
+        // a habit may be better than the glass: it warms the neighbour less
+        CHECK.tell(x, "habit 1 2");
+        CHECK.due("costs(1), ALWAYS", x.costs(1) > 10000000 ? 1 : 0, 1);
+        x = house("sky 0 400 0;sun 0;house 40 40 0 40;room 0 600 600 0 0;habit 0 1;room 1 0 0 0 0;habit 1 3;door 0 1 10");
+        int asItIs = x.night(HotWeek.NONE);
+        int costs = x.costs(0);
+        CHECK.tell(x, "habit 0 0;open 0 0 23");
+        int byClock = x.night(HotWeek.NONE);
+        CHECK.due("costs, GLASS already", costs, 10000000);
+        CHECK.due("costs of another", x.costs(0), 10000000 + byClock - asItIs);
+    }
+
+    private static void clock() {
+        HotWeek x = house("sky 200 200 0;sun 0;house 0 0 0 25;room 0 204 0 0 0;open 0 3 4;habit 0 2");
+        // 203 once it was open; best from the first hour on
+        CHECK.due("clock(0)", x.clock(0), 0);
+        CHECK.due("clock(1)", x.clock(1), 1);
+        CHECK.due("clock(2)", x.clock(2), 32 * 203);
+        CHECK.due("clock(3)", x.clock(3), 10000000);
+        CHECK.due("clock(4)", x.clock(4), HotWeek.OUTSIDE);
+        CHECK.due("clock(-1)", x.clock(-1), HotWeek.OUTSIDE);
+        CHECK.due("clock as told stays", x.room(0, 5), 8);
+        CHECK.tell(x, "room 0 200 0 0 0");
+        CHECK.due("nothing to win, clock(0)", x.clock(0), 0);
+        CHECK.due("nothing to win, clock(1)", x.clock(1), 0);
+        CHECK.tell(x, "room 0 100 0 0 0");
+        CHECK.due("colder within, clock(1)", x.clock(1), 0);
+        CHECK.due("colder within, clock(2)", x.clock(2), 3200);
+        CHECK.tell(x, "room 0 600 0 0 0;home 7 9");
+        CHECK.due("at home 7 and 8, clock(0)", x.clock(0), 0);
+        CHECK.due("at home 7 and 8, clock(1)", x.clock(1), 9);
+        CHECK.tell(x, "room 0 600 0 0 0;home 23 1");
+        CHECK.due("at home 23 and 0, clock(0)", x.clock(0), 2);
+        CHECK.due("at home 23 and 0, clock(1)", x.clock(1), 1);
+        CHECK.due("as near as the glass", x.clock(3), 10000000);
+        CHECK.tell(x, "bare 0");
+        CHECK.due("no rooms", x.clock(2), 0);
+        // the clock beats the glass where what is let in by day is given back by the walls
+        HotWeek y = house("room 0 300 300 3 2;shut 0 12 20;room 1 280 280 1 2;door 0 1 5");
+        int best = y.clock(2);
+        int from = y.clock(0);
+        int to = y.clock(1);
+        int near = y.clock(3) - 10000000;
+        CHECK.tell(y, "open 0 " + from + " " + to + ";open 1 " + from + " " + to);
+        CHECK.due("night by the best clock", y.night(HotWeek.NONE), best);
+        CHECK.tell(y, "habit 0 1;habit 1 1");
+        CHECK.due("night by the glass", y.night(HotWeek.NONE), best - near);
+    }
+}

@@ -1,0 +1,227 @@
+/** Promises 1 to 8: what is told. */
+public final class ToldTest {
+    private static final Check CHECK = new Check();
+
+    public static void main(String[] args) {
+        newObject();
+        write();
+        erase();
+        fault();
+        faultBounds();
+        week();
+        room();
+        door();
+        out();
+        CHECK.end();
+    }
+
+    private static void newObject() {
+        HotWeek x = new HotWeek();
+        for (int what = 0; what < 5; what++) {
+            CHECK.due("count(" + what + ") at first", x.count(what), 0);
+        }
+        CHECK.due("count(5) at first", x.count(5), 0xffffff);
+        for (int r = 0; r < 5; r++) {
+            CHECK.due("room at first", x.room(r, 0), HotWeek.UNKNOWN);
+            CHECK.due("door at first", x.door(r, (r + 1) % 5), 0);
+        }
+        CHECK.due("night(NONE) at first", x.night(HotWeek.NONE), 0);
+        CHECK.due("ring(NONE) at first", x.ring(HotWeek.NONE), 0);
+        CHECK.due("NONE", HotWeek.NONE, -1);
+        CHECK.due("UNKNOWN", HotWeek.UNKNOWN, -2);
+        CHECK.due("OUTSIDE", HotWeek.OUTSIDE, -3);
+        CHECK.due("NOT", HotWeek.NOT, -4);
+        CHECK.due("FULL", HotWeek.FULL, -5);
+    }
+
+    private static void write() {
+        HotWeek x = new HotWeek();
+        CHECK.due("write 0", x.write(0, 0), HotWeek.OUTSIDE);
+        CHECK.due("write 9", x.write(0, 9), HotWeek.OUTSIDE);
+        CHECK.due("write min", x.write(0, Integer.MIN_VALUE), HotWeek.OUTSIDE);
+        CHECK.due("write max", x.write(0, Integer.MAX_VALUE), HotWeek.OUTSIDE);
+        CHECK.due("nothing written", x.count(1), 0);
+        CHECK.due("write 1, the other bytes left", x.write(Check.packed("sXXXXXXX"), 1), 1);
+        CHECK.due("write 7", x.write(Check.packed("un 7    "), 7), 8);
+        CHECK.due("fault", x.fault(), HotWeek.NONE);
+        CHECK.due("write of bytes above 127", x.write(-1L, 8), 16);
+        CHECK.due("fault at the first of them", x.fault(), 8);
+        for (int i = 2; i < 25; i++) {
+            CHECK.due("write", x.write(0, 8), 8 * i + 8);
+        }
+        CHECK.due("write to the full text", x.write(0, 1), HotWeek.FULL);
+        CHECK.due("OUTSIDE ahead of FULL", x.write(0, 0), HotWeek.OUTSIDE);
+        x.erase();
+        for (int i = 0; i < 24; i++) {
+            x.write(0, 8);
+        }
+        x.write(0, 3);
+        CHECK.due("write of 6 to 195", x.write(0, 6), HotWeek.FULL);
+        CHECK.due("195 stay", x.count(1), 195);
+        CHECK.due("write of 5 to 195", x.write(0, 5), 200);
+    }
+
+    private static void erase() {
+        HotWeek x = new HotWeek();
+        CHECK.due("erase of nothing", x.erase(), 0);
+        Check.write(x, "sun 7;sun");
+        CHECK.due("erase", x.erase(), 9);
+        CHECK.due("count(1)", x.count(1), 0);
+        CHECK.due("erase again", x.erase(), 0);
+        Check.write(x, "sun 8");
+        CHECK.due("only what came behind", x.week(), 1);
+    }
+
+    private static void fault() {
+        CHECK.dueFault("", 0);
+        CHECK.dueFault("   ", 3);
+        CHECK.dueFault("sun", 3);
+        CHECK.dueFault("sun  ", 5);
+        CHECK.dueFault("su", 0);
+        CHECK.dueFault("suns 7", 0);
+        CHECK.dueFault("  sunsun 7", 2);
+        CHECK.dueFault("Sun 7", 0);
+        CHECK.dueFault("sun7", HotWeek.NONE);
+        CHECK.dueFault("  sun  7  ", HotWeek.NONE);
+        CHECK.dueFault("sun 007", HotWeek.NONE);
+        CHECK.dueFault("sun 0007", 4);
+        CHECK.dueFault("sun 7 7", 6);
+        CHECK.dueFault("sun 7sun 7", 5);
+        CHECK.dueFault("sun -7", 4);
+        CHECK.dueFault("sun 7.", 5);
+        CHECK.dueFault("sun 7,sun 8", 5);
+        CHECK.dueFault(";", 0);
+        CHECK.dueFault("sun;sun 8", 3);
+        CHECK.dueFault("sun 7;", 6);
+        CHECK.dueFault("sun 7; ", 7);
+        CHECK.dueFault("sun 7;;sun 8", 6);
+        CHECK.dueFault("sun 7 ; sun 8", HotWeek.NONE);
+        CHECK.dueFault("7", 0);
+        CHECK.dueFault("sun\u00007", 3);
+        CHECK.dueFault("sun\t7", 3);
+        CHECK.dueFault("sun \u00ff", 4);
+        CHECK.dueFault("sun 9999999999999999999", 4);
+        CHECK.dueFault("room 1 2 3 3 9;room 5 2 3 3 9", 20);
+        String seven = "sun 1;sun 1;sun 1;sun 1;sun 1;sun 1;sun 1;";
+        CHECK.dueFault(seven + "sun 1", HotWeek.NONE);
+        CHECK.dueFault(seven + "sun 1 ;", 48);
+        CHECK.dueFault(seven + "sun 1;sun 1", 47);
+        CHECK.dueFault(seven + "sun 1 x", 48);
+        CHECK.dueFault(seven, 42);
+    }
+
+    /** Each number of each line: its bound stands, one more is a fault, and so is the end ahead of it. */
+    private static void faultBounds() {
+        String[] forms = {"room 4 600 600 3 9", "door 4 3 10", "door 3 4 10", "sky 500 500 50", "sun 99",
+            "house 40 40 20 40", "habit 4 3", "open 4 23 23", "shut 4 23 23", "home 23 23", "bare 4"};
+        for (String form : forms) {
+            CHECK.dueFault(form, HotWeek.NONE);
+            CHECK.dueFault(form.replaceAll("[0-9]", "0").replace("door 0 0", "door 0 1"), HotWeek.NONE);
+            String[] parts = form.split(" ");
+            StringBuilder ahead = new StringBuilder(parts[0]);
+            for (int i = 1; i < parts.length; i++) {
+                CHECK.dueFault(ahead.toString(), ahead.length());
+                ahead.append(' ');
+                int bound = form.startsWith("door") && i <= 2 ? 4 : Integer.parseInt(parts[i]);
+                CHECK.dueFault(ahead.toString() + (bound + 1), ahead.length());
+                CHECK.dueFault(ahead + "x", ahead.length());
+                ahead.append(parts[i]);
+            }
+            CHECK.dueFault(ahead + " 0", ahead.length() + 1);
+        }
+        CHECK.dueFault("door 2 2 1", 7);
+        CHECK.dueFault("door 2 002 1", 7);
+        CHECK.dueFault("open 2 2 2", HotWeek.NONE);
+        CHECK.dueFault("door 1 2 3;door 2 1 3", HotWeek.NONE);
+    }
+
+    private static void week() {
+        HotWeek x = new HotWeek();
+        CHECK.due("week of nothing", x.week(), HotWeek.NOT);
+        Check.write(x, "room 1 1 2 3 4;room 9 1 2 3 4");
+        CHECK.due("week of a fault", x.week(), HotWeek.NOT);
+        CHECK.due("text stays", x.count(1), 29);
+        CHECK.due("nothing is done", x.count(0), 0);
+        x.erase();
+        CHECK.tell(x, "room 1 1 2 3 4;bare 1;room 2 5 6 0 1;room 2 7 8 1 2");
+        CHECK.due("text is empty", x.count(1), 0);
+        CHECK.due("in their order: bare", x.room(1, 0), HotWeek.UNKNOWN);
+        CHECK.due("in their order: room", x.room(2, 0), 7);
+        CHECK.tell(x, "habit 2 3;home 5 5");
+        CHECK.due("what was told stays", x.room(2, 1), 8);
+        CHECK.tell(x, "bare 2;room 2 9 9 0 0");
+        CHECK.due("the habit stays", x.room(2, 4), 3);
+        Check.write(x, "sun");
+        CHECK.due("a faulty text again", x.week(), HotWeek.NOT);
+        Check.write(x, " 5");
+        CHECK.due("mended", x.week(), 1);
+    }
+
+    private static void room() {
+        HotWeek x = new HotWeek();
+        CHECK.tell(x, "habit 3 2;open 3 22 3;shut 3 9 11;room 3 600 0 3 9");
+        int[] want = {600, 0, 3, 9, 2, 7 | 3 << 22, 3 << 9};
+        for (int what = 0; what < 7; what++) {
+            CHECK.due("room(3, " + what + ")", x.room(3, what), want[what]);
+        }
+        CHECK.due("room(3, 7)", x.room(3, 7), HotWeek.OUTSIDE);
+        CHECK.due("room(3, -1)", x.room(3, -1), HotWeek.OUTSIDE);
+        CHECK.due("room(2, 7), not told", x.room(2, 7), HotWeek.UNKNOWN);
+        CHECK.due("room(5, 0)", x.room(5, 0), HotWeek.UNKNOWN);
+        CHECK.due("room(-1, 0)", x.room(-1, 0), HotWeek.UNKNOWN);
+        CHECK.due("room(max, 0)", x.room(Integer.MAX_VALUE, 0), HotWeek.UNKNOWN);
+        CHECK.due("room(min, 0)", x.room(Integer.MIN_VALUE, 0), HotWeek.UNKNOWN);
+        CHECK.tell(x, "open 3 23 0;shut 3 0 23");
+        CHECK.due("open 23 0", x.room(3, 5), 1 << 23);
+        CHECK.due("shut 0 23", x.room(3, 6), (1 << 23) - 1);
+        CHECK.tell(x, "open 3 7 7;shut 3 0 0");
+        CHECK.due("open 7 7", x.room(3, 5), 0);
+        CHECK.due("shut 0 0", x.room(3, 6), 0);
+        CHECK.tell(x, "bare 3");
+        CHECK.due("bare", x.room(3, 0), HotWeek.UNKNOWN);
+        CHECK.tell(x, "room 4 1 2 0 0");
+        CHECK.due("habit at first", x.room(4, 4), 0);
+        CHECK.due("open at first", x.room(4, 5), 0);
+        CHECK.due("shut at first", x.room(4, 6), 0);
+    }
+
+    private static void door() {
+        HotWeek x = new HotWeek();
+        CHECK.tell(x, "door 3 1 10;door 0 4 7");
+        CHECK.due("door(1, 3)", x.door(1, 3), 10);
+        CHECK.due("door(3, 1)", x.door(3, 1), 10);
+        CHECK.due("door(4, 0)", x.door(4, 0), 7);
+        CHECK.due("door(0, 1)", x.door(0, 1), 0);
+        CHECK.due("door(2, 2)", x.door(2, 2), HotWeek.UNKNOWN);
+        CHECK.due("door(0, 5)", x.door(0, 5), HotWeek.UNKNOWN);
+        CHECK.due("door(5, 0)", x.door(5, 0), HotWeek.UNKNOWN);
+        CHECK.due("door(-1, 0)", x.door(-1, 0), HotWeek.UNKNOWN);
+        CHECK.due("door(0, min)", x.door(0, Integer.MIN_VALUE), HotWeek.UNKNOWN);
+        CHECK.tell(x, "door 1 3 2");
+        CHECK.due("door told anew", x.door(3, 1), 2);
+    }
+
+    private static void out() {
+        HotWeek x = new HotWeek();
+        // 190 and 310 the day ahead: 310 - 120 * 9 / 14
+        CHECK.due("out(0)", x.out(0), 310 - 77);
+        CHECK.due("out(4)", x.out(4), 310 - 111);
+        CHECK.due("out(5)", x.out(5), 200);
+        CHECK.due("out(6)", x.out(6), 212);
+        CHECK.due("out(14)", x.out(14), 308);
+        CHECK.due("out(15)", x.out(15), 320);
+        CHECK.due("out(23)", x.out(23), 320 - 68);
+        CHECK.due("out(28)", x.out(28), 320 - 111);
+        CHECK.due("out(29)", x.out(29), 210);
+        CHECK.due("out(95)", x.out(95), 350 - 68);
+        CHECK.due("out(96)", x.out(96), HotWeek.UNKNOWN);
+        CHECK.due("out(-1)", x.out(-1), HotWeek.UNKNOWN);
+        CHECK.due("out(min)", x.out(Integer.MIN_VALUE), HotWeek.UNKNOWN);
+        CHECK.tell(x, "sky 105 100 50");
+        // falls and rises are cut towards 0: -5 * 5 / 10 is -2, -5 * 9 / 14 is -3
+        CHECK.due("out(10) by less", x.out(10), 103);
+        CHECK.due("out(24) by less", x.out(24), 103);
+        CHECK.due("out(0) by less", x.out(0), 53);
+        CHECK.due("out(77) by less", x.out(77), 255);
+    }
+}
