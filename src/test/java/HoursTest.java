@@ -5,6 +5,7 @@ public final class HoursTest {
 
     public static void main(String[] args) {
         warmRefusals();
+        houseAtFirst();
         warmBySun();
         warmByFolkAndWall();
         warmByDoors();
@@ -40,6 +41,18 @@ public final class HoursTest {
         CHECK.due("warm(1, 0, 0)", x.warm(1, 0, 0), 249);
         CHECK.due("warm(1, 0, 1)", x.warm(1, 0, 1), 242);
         CHECK.due("warm(1, 0, 2)", x.warm(1, 0, 2), 0);
+    }
+
+    /** SUN 20, TAKES 20, GIVES 10, LEAKS 3, WINDOW 40, each seen alone. */
+    private static void houseAtFirst() {
+        HotWeek x = house("sky 0 0 0;house 0 0 0 0;room 0 0 0 1 0");
+        CHECK.due("SUN at first", x.warm(0, 6, 0), 20);
+        x = house("sky 0 0 0;sun 0;room 0 600 0 0 0;room 1 0 600 0 0;room 2 600 600 0 0;habit 2 2");
+        CHECK.due("TAKES at first", x.warm(0, 0, 1), 120);
+        CHECK.due("GIVES at first", x.warm(1, 0, 0), 60);
+        CHECK.due("TAKES and LEAKS at first", x.warm(1, 0, 1), 600 - 120 - 18);
+        CHECK.due("LEAKS at first", x.warm(2, 0, 1), 600 - 18);
+        CHECK.due("WINDOW at first", x.warm(2, 0, 0), 600 - 240);
     }
 
     /** The sun by side, from its first hour through its last; with the shutter down a quarter. */

@@ -79,6 +79,15 @@ public final class ToldTest {
         CHECK.dueFault("sun  ", 5);
         CHECK.dueFault("su", 0);
         CHECK.dueFault("suns 7", 0);
+        CHECK.dueFault("suna 7", 0);
+        CHECK.dueFault("sunz 7", 0);
+        CHECK.dueFault("sun` 7", 3);
+        CHECK.dueFault("sun{ 7", 3);
+        CHECK.dueFault("sun / 7", 4);
+        CHECK.dueFault("sun : 7", 4);
+        CHECK.dueFault("run 7", 0);
+        CHECK.dueFault("sum 7", 0);
+        CHECK.dueFault("sun 7;ssn 7", 6);
         CHECK.dueFault("  sunsun 7", 2);
         CHECK.dueFault("Sun 7", 0);
         CHECK.dueFault("sun7", HotWeek.NONE);

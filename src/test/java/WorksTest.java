@@ -135,6 +135,21 @@ public final class WorksTest {
         dueLearnt(x, 1, 4, 15, 15, 10, 25);
         CHECK.tell(x, "bare 3");
         CHECK.due("bare again", x.learnt(999, 0), 0);
+        learntByHabitAsTold();
+    }
+
+    /** What was tried ahead of it (clocks, the glass, works) leaves nothing behind. */
+    private static void learntByHabitAsTold() {
+        HotWeek x = new HotWeek();
+        CHECK.tell(x, "sky 100 100 0;sun 0;house 0 0 0 40;room 0 200 200 0 0;habit 0 2");
+        x.read(0, 0, 160);
+        CHECK.due("learnt by ALWAYS", x.learnt(0, 0), 81);
+        x.clock(0);
+        CHECK.due("learnt behind clock", x.learnt(0, 0), 81);
+        x.costs(0);
+        CHECK.due("learnt behind costs", x.learnt(0, 0), 81);
+        x.works(0, 0);
+        CHECK.due("works behind learnt", x.works(0, 1), x.night(HotWeek.NONE));
     }
 
     private static void learntRefusals() {
