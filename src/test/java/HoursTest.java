@@ -9,12 +9,18 @@ public final class HoursTest {
         warmBySun();
         warmByFolkAndWall();
         warmByDoors();
+        warmByTheLeastAndTheMost();
+        warmByTheShutter();
+        homeFromOneHourToItself();
         warmByWindow();
         windowHabits();
+        nobodyAtHome();
         night();
         above();
+        aboveOfRows();
         costs();
         clock();
+        betterThanTheGlass();
         CHECK.end();
     }
 
@@ -103,6 +109,64 @@ public final class HoursTest {
         CHECK.due("the room behind it is bare", x.warm(0, 0, 0), 250 + 5 - 3);
     }
 
+    /** Each share at its bounds, 0 and the most, between the least and the most AIR and WALL. */
+    private static void warmByTheLeastAndTheMost() {
+        HotWeek x = house(STILL, "room 0 0 600 0 0;room 4 600 0 0 0;habit 4 2;habit 0 2");
+        for (int hour : new int[] {0, 1, 94, 95}) {
+            CHECK.due("nothing passes, AIR 0", x.warm(0, hour, 0), 0);
+            CHECK.due("nothing passes, WALL 600", x.warm(0, hour, 1), 600);
+            CHECK.due("nothing passes, AIR 600", x.warm(4, hour, 0), 600);
+            CHECK.due("nothing passes, WALL 0", x.warm(4, hour, 1), 0);
+            CHECK.due("the window is open", x.warm(4, hour, 2), 1);
+        }
+        x = house("sky 500 500 0;sun 0;house 40 40 20 40;room 2 0 600 0 0;habit 2 2;room 3 600 0 0 0;habit 3 2");
+        CHECK.due("GIVES 40 and WINDOW 40", x.warm(2, 0, 0), 240 + 200);
+        CHECK.due("TAKES 40 and LEAKS 20", x.warm(2, 0, 1), 600 - 240 - 20);
+        CHECK.due("GIVES 40 and WINDOW 40, less", x.warm(3, 0, 0), 600 - 240 - 40);
+        CHECK.due("TAKES 40 and LEAKS 20, more", x.warm(3, 0, 1), 240 + 100);
+        // 99 by 40, by 100: 39.6 is cut; more than that would not be
+        x = house("sky 99 99 0;sun 0;house 40 40 20 40;room 2 0 99 0 0;habit 2 2;room 3 99 0 0 0;habit 3 3");
+        CHECK.due("GIVES and WINDOW, cut", x.warm(2, 0, 0), 39 + 39);
+        CHECK.due("TAKES, cut", x.warm(2, 0, 1), 99 - 39);
+        CHECK.due("TAKES and LEAKS, cut", x.warm(3, 0, 1), 39 + 19);
+        int[][] doors = {{0, 600, 1, 6}, {0, 600, 10, 60}, {0, 600, 0, 0}, {0, 99, 10, 9}, {0, 99, 1, 0},
+            {0, 100, 1, 1}, {600, 0, 1, -6}, {600, 0, 10, -60}, {199, 100, 10, -9}, {199, 100, 1, 0}};
+        for (int[] d : doors) {
+            x = house(STILL, "room 0 " + d[0] + " 0 0 0;room 4 " + d[1] + " 0 0 0;door 4 0 " + d[2]);
+            CHECK.due("door that lets " + d[2] + " pass to " + d[0], x.warm(0, 0, 0), d[0] + d[3]);
+            CHECK.due("door that lets " + d[2] + " pass to " + d[1], x.warm(4, 0, 0), d[1] - d[3]);
+        }
+    }
+
+    /** With the shutter down a quarter, cut: of less than four nothing. */
+    private static void warmByTheShutter() {
+        int[][] suns = {{0, 0, 0}, {3, 3, 0}, {4, 4, 1}, {7, 7, 1}, {98, 98, 24}, {99, 99, 24}};
+        for (int[] s : suns) {
+            HotWeek x = house(STILL, "sun " + s[0] + ";room 0 0 0 1 0;room 1 0 0 1 0;shut 1 6 7;room 2 0 0 1 0;shut 2 7 6");
+            CHECK.due("sun " + s[0], x.warm(0, 6, 0), s[1]);
+            CHECK.due("sun " + s[0] + ", shut 6 7 at 6", x.warm(1, 6, 0), s[2]);
+            CHECK.due("sun " + s[0] + ", shut 6 7 at 7", x.warm(1, 7, 0), s[2] + s[1]);
+            CHECK.due("sun " + s[0] + ", shut 7 6 at 6", x.warm(2, 6, 0), s[1]);
+            CHECK.due("sun " + s[0] + ", shut 7 6 at 7", x.warm(2, 7, 0), s[1] + s[2]);
+        }
+        // whatever the window's habit is, and with nobody at home as well
+        for (int habit = 0; habit < 4; habit++) {
+            HotWeek x = house(STILL, "sun 8;room 0 0 0 2 0;shut 0 0 23;home 23 0;habit 0 " + habit);
+            CHECK.due("shut by habit " + habit, x.warm(0, 10, 0), 2);
+        }
+    }
+
+    private static void homeFromOneHourToItself() {
+        for (int a = 0; a < 24; a++) {
+            HotWeek x = house(STILL, "room 0 0 0 0 1;room 1 0 0 0 0;habit 1 2;home " + a + " " + a);
+            for (int hour : new int[] {0, a, 23, 24, 95}) {
+                CHECK.due("folk behind " + hour, x.warm(0, hour, 0), 2 * hour + 2);
+                CHECK.due("no folk behind " + hour, x.warm(1, hour, 0), 0);
+                CHECK.due("open in " + hour, x.warm(1, hour, 2), 1);
+            }
+        }
+    }
+
     private static void warmByWindow() {
         HotWeek x = house(STILL, "house 0 0 0 25;room 0 297 0 0 0;open 0 2 4;room 1 103 0 0 0;open 1 1 2");
         CHECK.due("shut at 1", x.warm(0, 1, 0), 297);
@@ -136,6 +200,24 @@ public final class HoursTest {
         x = house("sky 200 200 0;sun 0;house 0 0 0 40;room 0 200 0 0 1;habit 0 1");
         CHECK.due("GLASS in 0", x.warm(0, 0, 2), 0);
         CHECK.due("GLASS in 1", x.warm(0, 1, 2), 1);
+    }
+
+    /** A window is open only if someone is at home, by whatever habit. */
+    private static void nobodyAtHome() {
+        HotWeek x = house("sky 0 0 0;sun 0;house 0 0 0 1;room 0 600 0 0 0;room 1 600 0 0 0;room 2 600 0 0 0",
+                "room 3 600 0 0 0;open 0 0 23;habit 1 1;habit 2 2;habit 3 3;home 9 11");
+        int[] by8 = {0, 0, 0, 0};
+        int[] by9 = {1, 1, 1, 0};
+        for (int r = 0; r < 4; r++) {
+            CHECK.due("room " + r + " in 8", x.warm(r, 8, 2), by8[r]);
+            CHECK.due("room " + r + " in 9", x.warm(r, 9, 2), by9[r]);
+            CHECK.due("room " + r + " in 10", x.warm(r, 10, 2), by9[r]);
+            CHECK.due("room " + r + " in 11", x.warm(r, 11, 2), by8[r]);
+            CHECK.due("room " + r + " in 0", x.warm(r, 0, 2), by8[r]);
+            CHECK.due("room " + r + " in 95", x.warm(r, 95, 2), by8[r]);
+            CHECK.due("room " + r + " behind 8", x.warm(r, 8, 0), 600);
+            CHECK.due("room " + r + " behind 11", x.warm(r, 11, 0), r < 3 ? 600 - 6 - 5 : 600);
+        }
     }
 
     private static void night() {
@@ -186,6 +268,29 @@ public final class HoursTest {
         }
         CHECK.due("the longest row", x.above(0, 60), longest);
         CHECK.due("which is not all", longest < all && longest > 1 ? 1 : 0, 1);
+    }
+
+    private static void aboveOfRows() {
+        // 600, open: 360, 216, 130, 78, .. behind hours 0, 1, ..
+        HotWeek x = house("sky 0 0 0;sun 0;house 0 0 0 40;room 0 600 0 0 0;habit 0 2;room 4 600 0 0 0;habit 4 3");
+        int[][] rows = {{360, 0}, {359, 1}, {216, 1}, {215, 2}, {130, 2}, {129, 3}, {78, 3}, {77, 4}, {-1, 96}};
+        for (int[] row : rows) {
+            CHECK.due("the row at the beginning, above " + row[0], x.above(0, row[0]), row[1]);
+        }
+        CHECK.due("all hours, above 599", x.above(4, 599), 96);
+        CHECK.due("no hour, above 600", x.above(4, 600), 0);
+        CHECK.due("above(0, max)", x.above(0, Integer.MAX_VALUE), HotWeek.OUTSIDE);
+        CHECK.due("above(0, min)", x.above(0, Integer.MIN_VALUE), HotWeek.OUTSIDE);
+        CHECK.due("above(5, 0)", x.above(5, 0), HotWeek.UNKNOWN);
+        // by 95 alone: the day's one hour with folk is the last
+        x = house(STILL, "room 0 0 0 0 1;home 23 0");
+        CHECK.due("the row at the end", x.above(0, 7), 1);
+        CHECK.due("the row from 71 on", x.above(0, 5), 25);
+        // OUT is 50 below nothing in hour 0, and none in hour 24
+        x = house("sky 0 0 50;sun 0;house 0 0 0 40;room 0 0 0 0 0;habit 0 2;home 0 1");
+        CHECK.due("AIR below nothing", x.warm(0, 0, 0), -20);
+        CHECK.due("above -20", x.above(0, -20), 72);
+        CHECK.due("above -21", x.above(0, -21), 96);
     }
 
     private static void costs() {
@@ -245,5 +350,27 @@ public final class HoursTest {
         CHECK.due("night by the best clock", y.night(HotWeek.NONE), best);
         CHECK.tell(y, "habit 0 1;habit 1 1");
         CHECK.due("night by the glass", y.night(HotWeek.NONE), best - near);
+    }
+
+    /** What is cut may make a habit better than the glass: less than nothing, and 10000000. */
+    private static void betterThanTheGlass() {
+        // open in hour 1 alone: 104 to 103, then by wall and window to 101, where it stays; by the glass
+        // it is 102 behind hour 0, and 2 * 40 / 100 is cut, so that it stays there
+        HotWeek x = house("sky 100 100 0;sun 0;house 0 40 0 40;home 0 2;room 0 104 100 0 0;open 0 1 2");
+        CHECK.due("night, open in 1", x.night(0), 103 + 31 * 101);
+        CHECK.due("costs below nothing", x.costs(0), 10000000 + 103 + 31 * 101 - 32 * 102);
+        CHECK.due("clock(0)", x.clock(0), 1);
+        CHECK.due("clock(1), the least B", x.clock(1), 0);
+        CHECK.due("clock(2)", x.clock(2), 103 + 31 * 101);
+        CHECK.due("near below nothing", x.clock(3), 10000000 + 103 + 31 * 101 - 32 * 102);
+        CHECK.due("clock(max)", x.clock(Integer.MAX_VALUE), HotWeek.OUTSIDE);
+        CHECK.due("clock(min)", x.clock(Integer.MIN_VALUE), HotWeek.OUTSIDE);
+        // someone is at home for one hour of the day: A is 0, but for hour 23, which no row from 0 on holds
+        for (int hour = 0; hour < 24; hour++) {
+            x = house("sky 0 0 0;sun 0;house 0 0 0 40;room 3 600 0 0 0;home " + hour + " " + (hour + 1) % 24);
+            CHECK.due("home at " + hour + ", clock(0)", x.clock(0), hour == 23 ? 1 : 0);
+            CHECK.due("home at " + hour + ", clock(1)", x.clock(1), hour == 23 ? 0 : hour + 1);
+            CHECK.due("home at " + hour + ", as near as the glass", x.clock(3), 10000000);
+        }
     }
 }

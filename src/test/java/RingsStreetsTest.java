@@ -5,9 +5,14 @@ public final class RingsStreetsTest {
     public static void main(String[] args) {
         flat();
         ring();
+        ringAtTheDue();
+        ringOfOne();
         streetRefusals();
         street();
+        streetAtTheBounds();
+        streetHasTwoEnds();
         count();
+        countOfTheFull();
         CHECK.end();
     }
 
@@ -80,6 +85,49 @@ public final class RingsStreetsTest {
         dueRings(x, 0);
     }
 
+    /** Rung when it is due, nothing more is lost; one behind it, WEIGHT times 10 is. */
+    private static void ringAtTheDue() {
+        for (int due = 1; due <= 8; due++) {
+            HotWeek x = new HotWeek();
+            for (int f = 0; f < 8; f++) {
+                x.flat(f, 2, due);
+            }
+            dueRings(x, 2 * 36 + 20 * (8 - due), 0, 1, 2, 3, 4, 5, 6, 7);
+        }
+        // 7 weighs least and goes last, whatever it loses there, as long as the others would lose more
+        for (int due = 1; due <= 8; due++) {
+            HotWeek x = new HotWeek();
+            for (int f = 0; f < 8; f++) {
+                x.flat(f, f == 7 ? 1 : 99, f == 7 ? due : 8);
+            }
+            dueRings(x, 99 * 28 + 8 + (due < 8 ? 10 : 0), 0, 1, 2, 3, 4, 5, 6, 7);
+        }
+    }
+
+    private static void ringOfOne() {
+        for (int f = 0; f < 8; f++) {
+            for (int due = 1; due <= 8; due += 7) {
+                HotWeek x = new HotWeek();
+                x.flat(f, 99, due);
+                dueRings(x, 99, f);
+                CHECK.due("ring(8)", x.ring(8), HotWeek.NONE);
+                x.flat(f, 1, due);
+                dueRings(x, 1, f);
+                x.flat(f, 0, due);
+                dueRings(x, 0);
+            }
+        }
+        HotWeek x = new HotWeek();
+        x.flat(7, 1, 8);
+        x.flat(0, 1, 8);
+        dueRings(x, 3, 0, 7);
+        x.flat(0, 99, 2);
+        x.flat(7, 99, 1);
+        dueRings(x, 297, 7, 0);
+        CHECK.due("ring(max)", x.ring(Integer.MAX_VALUE), HotWeek.NONE);
+        CHECK.due("ring(8)", x.ring(8), HotWeek.NONE);
+    }
+
     private static void streetRefusals() {
         HotWeek x = new HotWeek();
         int[][] outside = {{0, 1, 1, 1, 0}, {9, 1, 1, 1, 0}, {1, -1, 1, 1, 0}, {1, 100, 1, 1, 0},
@@ -87,6 +135,44 @@ public final class RingsStreetsTest {
             {1, 1, 1, 1, -1}, {1, 1, 1, 1, 4}};
         for (int[] o : outside) {
             CHECK.due("street outside", x.street(o[0], o[1], o[2], o[3], o[4]), HotWeek.OUTSIDE);
+        }
+        int[] extremes = {Integer.MIN_VALUE, -1, 100, Integer.MAX_VALUE};
+        for (int e : extremes) {
+            for (int place = 0; place < 5; place++) {
+                int[] o = {1, 1, 1, 1, 1};
+                o[place] = e;
+                CHECK.due("street outside", x.street(o[0], o[1], o[2], o[3], o[4]), HotWeek.OUTSIDE);
+            }
+        }
+    }
+
+    /** As much without a machine as with one does not rest with one, nor would anybody without take one. */
+    private static void streetAtTheBounds() {
+        for (int n = 1; n <= 8; n++) {
+            int all = (1 << n) - 1;
+            int pairs = 2 * (n - 1);
+            dueStreet(n, 1, 0, 0, 1, all, 100000 + n, 100000 + n);
+            dueStreet(n, 99, 0, 98, 1, all, 100000 + n, 100000 + n);
+            dueStreet(n, 0, 0, 0, 1, 0, 100000, 100000);
+            dueStreet(n, 99, 0, 99, 1, 0, 100000, 100000);
+            dueStreet(n, 98, 0, 99, 1, 0, 100000, 100000);
+            // better by 1 and 0 less: everybody runs one, nobody bears a neighbour's
+            dueStreet(n, 99, 0, 0, 1, all, 100000 + 99 * n, 100000 + 99 * n);
+            // nothing better: as much by oneself, better beside one who runs one
+            dueStreet(n, 99, 99, 99, n == 1 ? 1 : 2, 0, 100000, 100000);
+            // one neighbour is just not enough, and just enough
+            dueStreet(n, 4, 3, 7, 1, 0, 100000, 100000);
+            dueStreet(n, 5, 3, 7, n == 1 ? 1 : 2, 0, 100000, 100000);
+            dueStreet(n, 1, 99, 0, 1, all, 100000 + n - 99 * pairs, n == 1 ? 100001 : 100000);
+        }
+    }
+
+    /** One neighbour to each side, and to the ends' other side none: by two neighbours only all could rest. */
+    private static void streetHasTwoEnds() {
+        for (int n = 3; n <= 8; n++) {
+            dueStreet(n, 5, 2, 8, 1, 0, 100000, 100000);
+            // each end bears one, each other two
+            dueStreet(n, 99, 1, 0, 1, (1 << n) - 1, 100000 + 99 * n - 2 * (n - 1), 100000 + 99 * n - 2 * (n - 1));
         }
     }
 
@@ -146,5 +232,30 @@ public final class RingsStreetsTest {
         CHECK.due("count(2)", x.count(2), 2);
         CHECK.due("count(3)", x.count(3), 1);
         CHECK.due("count(4)", x.count(4), 3);
+    }
+
+    private static void countOfTheFull() {
+        HotWeek x = new HotWeek();
+        CHECK.tell(x, "room 0 1 1 0 0;room 1 1 1 0 0;room 2 1 1 0 0;room 3 1 1 0 0;room 4 1 1 0 0;home 23 0");
+        Check.write(x, " ".repeat(200));
+        for (int i = 0; i < 9; i++) {
+            x.work(0, 1, 1, 1);
+            x.read(0, 0, 0);
+            x.flat(i, 1, 1);
+        }
+        int[] want = {5, 200, 6, 8, 8, 1 << 23};
+        for (int what = 0; what < 6; what++) {
+            CHECK.due("count(" + what + ") of the full", x.count(what), want[what]);
+        }
+        CHECK.due("count(max)", x.count(Integer.MAX_VALUE), HotWeek.OUTSIDE);
+        CHECK.due("count(min)", x.count(Integer.MIN_VALUE), HotWeek.OUTSIDE);
+        x.week();
+        CHECK.due("count(1) behind a faulty week", x.count(1), 200);
+        x.erase();
+        CHECK.due("count(1) behind erase", x.count(1), 0);
+        CHECK.tell(x, "bare 0;bare 1;bare 2;bare 3;bare 4");
+        CHECK.due("count(0) of the bare", x.count(0), 0);
+        CHECK.due("count(2) of the bare", x.count(2), 6);
+        CHECK.due("count(3) of the bare", x.count(3), 8);
     }
 }

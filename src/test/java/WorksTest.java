@@ -6,8 +6,14 @@ public final class WorksTest {
         work();
         works();
         worksOneBehindTheOther();
+        worksOfTheLeastAndTheMost();
+        worksForWhatTheyCost();
+        worksOfSeveralTheLeastNumber();
         read();
         learnt();
+        learntAtTheCorners();
+        learntAtMostSoMuchOff();
+        learntOfTheLastRow();
         learntRefusals();
         CHECK.end();
     }
@@ -86,6 +92,73 @@ public final class WorksTest {
         CHECK.due("leaks that cool", y.works(9999, 0), 0);
     }
 
+    /** What is left of the sun of one east room is seen by its night; so are LEAKS, by a room that has no sun. */
+    private static void worksOfTheLeastAndTheMost() {
+        int times = 5 * (2 + 10 + 18 + 26);
+        int[][] suns = {{0, 99, 99}, {1, 99, 98}, {10, 99, 89}, {50, 99, 49}, {98, 99, 1}, {99, 99, 0}, {100, 99, 0},
+            {0, 1, 1}, {1, 1, 0}, {0, 0, 0}, {100, 0, 0}, {75, 4, 1}, {76, 4, 0}};
+        for (int[] s : suns) {
+            HotWeek x = new HotWeek();
+            CHECK.tell(x, "sky 0 0 0;sun " + s[1] + ";house 0 0 0 0;room 4 0 0 1 0");
+            CHECK.due("work", x.work(4, 1, s[0], 0), 0);
+            CHECK.due("sun " + s[1] + ", " + s[0] + " hundredths less", x.works(1, 1), s[2] * times);
+            CHECK.due("is taken if it is less", x.works(1, 0), s[2] < s[1] ? 1 : 0);
+        }
+        // LEAKS so many less, 0 at least: as if the house were told with what is left
+        int[][] leaks = {{20, 0, 20}, {20, 1, 19}, {20, 19, 1}, {20, 20, 0}, {3, 2, 1}, {3, 3, 0}, {3, 4, 0}, {0, 20, 0}};
+        for (int[] l : leaks) {
+            HotWeek x = new HotWeek();
+            HotWeek y = new HotWeek();
+            CHECK.tell(x, "sky 500 500 0;sun 0;house 0 40 " + l[0] + " 0;room 0 0 0 0 0");
+            CHECK.tell(y, "sky 500 500 0;sun 0;house 0 40 " + l[2] + " 0;room 0 0 0 0 0");
+            x.work(0, 1, 0, l[1]);
+            CHECK.due("leaks " + l[0] + ", " + l[1] + " less", x.works(1, 1), y.night(0));
+            CHECK.due("only LEAKS 0 lets nothing in", y.night(0) == 0 ? 0 : 1, l[2] == 0 ? 0 : 1);
+        }
+    }
+
+    /** A set that costs no more than the sum: as much as it is still no more, one less is not enough. */
+    private static void worksForWhatTheyCost() {
+        HotWeek x = new HotWeek();
+        CHECK.tell(x, "sky 0 0 0;sun 64;house 0 0 0 0;room 0 0 0 1 0");
+        x.work(0, 999, 50, 0);
+        CHECK.due("for 998", x.works(998, 0), 0);
+        CHECK.due("for 999", x.works(999, 0), 1);
+        for (int i = 1; i < 6; i++) {
+            x.work(0, 999 - i, 50, 0);
+        }
+        CHECK.due("for 993", x.works(993, 0), 0);
+        CHECK.due("for 994", x.works(994, 0), 32);
+        int all = 999 * 6 - 15;
+        CHECK.due("for one less than all, any five: the least number", x.works(all - 1, 0), 31);
+        CHECK.due("for all", x.works(all, 0), 63);
+        CHECK.due("for 9999", x.works(9999, 0), 63);
+        CHECK.due("for 9999, the night", x.works(9999, 1), 5 * (2 + 10 + 18 + 26));
+        CHECK.due("for 0", x.works(0, 0), 0);
+        CHECK.due("for 0, the night", x.works(0, 1), 64 * 5 * (2 + 10 + 18 + 26));
+        CHECK.due("a seventh", x.work(0, 1, 100, 20), HotWeek.FULL);
+        CHECK.due("changes nothing", x.works(1, 0), 0);
+        CHECK.due("works(max, 0)", x.works(Integer.MAX_VALUE, 0), HotWeek.OUTSIDE);
+        CHECK.due("works(min, 0)", x.works(Integer.MIN_VALUE, 0), HotWeek.OUTSIDE);
+    }
+
+    private static void worksOfSeveralTheLeastNumber() {
+        HotWeek x = new HotWeek();
+        CHECK.tell(x, "sky 0 0 0;sun 64;house 0 0 0 0;room 0 0 0 1 0");
+        x.work(0, 1, 0, 0);
+        x.work(1, 1, 100, 20);
+        CHECK.due("nothing to win", x.works(9999, 0), 0);
+        x.work(0, 5, 50, 0);
+        x.work(0, 2, 50, 0);
+        x.work(0, 9, 100, 0);
+        x.work(0, 1, 100, 0);
+        CHECK.due("by 5 alone, as well as by more", x.works(8, 0), 32);
+        CHECK.due("by 4, the least", x.works(9, 0), 16);
+        CHECK.tell(x, "bare 0");
+        CHECK.due("no room is told", x.works(9999, 0), 0);
+        CHECK.due("no room is told, the night", x.works(9999, 1), 0);
+    }
+
     private static void read() {
         HotWeek x = new HotWeek();
         CHECK.due("read(5, 0, 0)", x.read(5, 0, 99999), HotWeek.UNKNOWN);
@@ -150,6 +223,70 @@ public final class WorksTest {
         CHECK.due("learnt behind costs", x.learnt(0, 0), 81);
         x.works(0, 0);
         CHECK.due("works behind learnt", x.works(0, 1), x.night(HotWeek.NONE));
+    }
+
+    /** AIR 200 is 200 + GIVES behind hour 0, and by GIVES 40 264 less 2 for each step of TAKES behind hour 1. */
+    private static void learntAtTheCorners() {
+        String told = "sky 0 0 0;sun 0;house 7 7 0 0;room 4 200 300 0 0";
+        HotWeek x = new HotWeek();
+        CHECK.tell(x, told);
+        x.read(4, 0, 200);
+        dueLearnt(x, 0, 9, 0, 0, 0, 40);
+        x = new HotWeek();
+        CHECK.tell(x, told);
+        x.read(4, 0, 240);
+        dueLearnt(x, 0, 9, 40, 40, 0, 40);
+        x.read(4, 1, 264);
+        dueLearnt(x, 0, 1, 40, 40, 0, 0);
+        x = new HotWeek();
+        CHECK.tell(x, told);
+        x.read(4, 1, 248);
+        x.read(4, 0, 240);
+        dueLearnt(x, 0, 1, 40, 40, 40, 40);
+        dueLearnt(x, 1, 1, 40, 40, 40, 40);
+        dueLearnt(x, 2, 2, 40, 40, 35, 40);
+        x = new HotWeek();
+        CHECK.tell(x, told);
+        x.read(4, 0, 199);
+        dueLearnt(x, 0, 0, -1, -1, -1, -1);
+        dueLearnt(x, 1, 9, 0, 0, 0, 40);
+        x = new HotWeek();
+        CHECK.tell(x, told);
+        x.read(4, 0, 241);
+        dueLearnt(x, 0, 0, -1, -1, -1, -1);
+        dueLearnt(x, 1, 9, 40, 40, 0, 40);
+    }
+
+    private static void learntAtMostSoMuchOff() {
+        int[][] rows = {{1199, 999, 81}, {1200, 999, 72}, {1239, 999, 9}, {1240, 999, 0}, {-759, 999, 81},
+            {-760, 999, 72}, {-799, 999, 9}, {-800, 999, 0}, {9999, 999, 0}, {-999, 999, 0}, {220, 20, 81},
+            {220, 19, 63}, {220, 0, 9}, {220, 4, 9}, {220, 5, 27}};
+        for (int[] row : rows) {
+            HotWeek x = new HotWeek();
+            CHECK.tell(x, "sky 0 0 0;sun 0;house 7 7 0 0;room 0 200 300 0 0");
+            x.read(0, 0, row[0]);
+            CHECK.due("read " + row[0] + ", " + row[1] + " off", x.learnt(row[1], 0), row[2]);
+        }
+    }
+
+    /** Each of eight rows is asked, the last as well as the first; a ninth, refused, is not. */
+    private static void learntOfTheLastRow() {
+        for (int wrong = 0; wrong < 8; wrong++) {
+            HotWeek x = new HotWeek();
+            CHECK.tell(x, "sky 0 0 0;sun 0;house 7 7 0 0;room 0 600 600 0 0;room 4 0 0 0 0");
+            for (int i = 0; i < 8; i++) {
+                x.read(4, 95, i == wrong ? 1 : 0);
+            }
+            CHECK.due("row " + wrong + " is off", x.learnt(0, 0), 0);
+            CHECK.due("row " + wrong + " is one off", x.learnt(1, 0), 81);
+        }
+        HotWeek x = new HotWeek();
+        CHECK.tell(x, "sky 0 0 0;sun 0;house 7 7 0 0;room 0 600 600 0 0");
+        for (int i = 0; i < 8; i++) {
+            x.read(0, i, 600);
+        }
+        CHECK.due("a ninth", x.read(0, 0, 0), HotWeek.FULL);
+        dueLearnt(x, 0, 81, 0, 40, 0, 40);
     }
 
     private static void learntRefusals() {
