@@ -11,6 +11,7 @@ public final class RingsStreetsTest {
         street();
         streetAtTheBounds();
         streetHasTwoEnds();
+        streetsOneBehindTheOther();
         count();
         countOfTheFull();
         CHECK.end();
@@ -173,6 +174,22 @@ public final class RingsStreetsTest {
             dueStreet(n, 5, 2, 8, 1, 0, 100000, 100000);
             // each end bears one, each other two
             dueStreet(n, 99, 1, 0, 1, (1 << n) - 1, 100000 + 99 * n - 2 * (n - 1), 100000 + 99 * n - 2 * (n - 1));
+        }
+    }
+
+    /** Of the street that was asked ahead nothing is left, neither its most nor what rested in it. */
+    private static void streetsOneBehindTheOther() {
+        int[][] streets = {{8, 99, 0, 0, 1, 255, 100792, 100792}, {1, 0, 0, 99, 1, 0, 100000, 100000},
+            {8, 99, 99, 0, 1, 255, 99406, 100000}, {2, 5, 3, 7, 2, 0, 100000, 100000}, {1, 1, 99, 0, 1, 1, 100001, 100001}};
+        HotWeek x = new HotWeek();
+        for (int[] ahead : streets) {
+            for (int[] s : streets) {
+                for (int what = 0; what < 4; what++) {
+                    x.street(ahead[0], ahead[1], ahead[2], ahead[3], what);
+                    CHECK.due("street of " + s[0] + " behind a street of " + ahead[0] + ", what " + what,
+                            x.street(s[0], s[1], s[2], s[3], what), s[4 + what]);
+                }
+            }
         }
     }
 
